@@ -1,0 +1,27 @@
+/** Counts the answers that are not as due, and ends a test with exit code 1 if there was one. */
+final class Due {
+    private static int asked;
+    private static int wrong;
+
+    private Due() {
+    }
+
+    static void is(String what, long got, long want) {
+        asked++;
+        if (got != want) {
+            wrong++;
+            System.out.println(what + " answered " + got + ", due is " + want);
+        }
+    }
+
+    static void holds(String what, boolean so) {
+        is(what, so ? 1 : 0, 1);
+    }
+
+    static void end() {
+        System.out.println(asked + " answers asked, " + wrong + " not as due");
+        if (wrong != 0 || asked == 0) {
+            System.exit(1);
+        }
+    }
+}

@@ -2,15 +2,21 @@
 final class Due {
     private static int asked;
     private static int wrong;
+    private static String heading = "";
 
     private Due() {
+    }
+
+    /** Said ahead of each wrong answer from here on. */
+    static void under(String text) {
+        heading = "'" + text + "': ";
     }
 
     static void is(String what, long got, long want) {
         asked++;
         if (got != want) {
             wrong++;
-            System.out.println(what + " answered " + got + ", due is " + want);
+            System.out.println(heading + what + " answered " + got + ", due is " + want);
         }
     }
 

@@ -1,7 +1,5 @@
 /** Each promise by itself, with answers worked out by hand from the document. */
-public final class PromisesTest {
-    private static final int FAR = -100000;
-
+public final class PromisesTest extends Asking {
     public static void main(String[] args) {
         p1();
         p2();
@@ -35,50 +33,6 @@ public final class PromisesTest {
         p34();
         beyondLastMonth();
         Due.end();
-    }
-
-    private static void type(BeforeThird x, String text) {
-        x.clear();
-        for (char c : text.toCharArray()) {
-            x.type(c);
-        }
-    }
-
-    private static BeforeThird with(int pounds) {
-        BeforeThird x = new BeforeThird();
-        x.account(pounds);
-        return x;
-    }
-
-    private static void figures(String what, BeforeThird x, int... want) {
-        for (int i = 0; i < want.length; i++) {
-            Due.is(what + " now(" + i + ")", x.now(i), want[i]);
-        }
-    }
-
-    private static void counts(String what, BeforeThird x, int... want) {
-        for (int i = 0; i < want.length; i++) {
-            Due.is(what + " count(" + i + ")", x.count(i), want[i]);
-        }
-    }
-
-    private static void statuses(String what, BeforeThird x, int bad, int no, int full) {
-        Due.is(what + " status(0)", x.status(0), bad);
-        Due.is(what + " status(1)", x.status(1), no);
-        Due.is(what + " status(2)", x.status(2), full);
-    }
-
-    private static void fraction(String what, BeforeThird x, long above, long below) {
-        Due.is(what + " part(0)", x.part(0), above);
-        Due.is(what + " part(1)", x.part(1), below);
-    }
-
-    private static long digestOf(long... values) {
-        long h = 1373;
-        for (long v : values) {
-            h = 31 * h + v;
-        }
-        return h;
     }
 
     private static void p1() {

@@ -1,4 +1,3 @@
-import java.lang.reflect.InvocationTargetException;
 import java.lang.reflect.Method;
 import java.lang.reflect.Modifier;
 import java.util.ArrayList;
@@ -8,7 +7,7 @@ import java.util.List;
 import java.util.Random;
 
 /** Runs of calls on BeforeThird and on the slow Model side by side, by fixed seeds. */
-public final class RandomRunsTest {
+public final class RandomRunsTest extends Asking {
     private static final int RUNS = 400, CALLS = 512;
     private static final int[] EDGES = {
         Integer.MIN_VALUE, Integer.MIN_VALUE + 1, -100001, -1000, -100, -99, -3, -2, -1, 0, 1, 2, 3, 4, 5, 6, 7, 8, 10,
@@ -29,7 +28,7 @@ public final class RandomRunsTest {
         this.random = new Random(run);
     }
 
-    public static void main(String[] args) throws Exception {
+    public static void main(String[] args) {
         List<Method> face = new ArrayList<>();
         for (Method m : BeforeThird.class.getDeclaredMethods()) {
             if (Modifier.isPublic(m.getModifiers())) {
@@ -44,7 +43,7 @@ public final class RandomRunsTest {
         Due.end();
     }
 
-    private void go(List<Method> face) throws Exception {
+    private void go(List<Method> face) {
         int made = 0;
         while (made < CALLS) {
             int before = made;
@@ -78,7 +77,7 @@ public final class RandomRunsTest {
     }
 
     /** Pay and bills near one another, so that the account stays about 0, where answers differ most. */
-    private int freshAccount() throws Exception {
+    private int freshAccount() {
         both("account", between(0, random.nextBoolean() ? 40 : 999));
         int n = between(1, 3);
         for (int i = 0; i < n; i++) {
@@ -88,7 +87,7 @@ public final class RandomRunsTest {
         return 1 + 2 * n + both("spend", between(0, 3));
     }
 
-    private int likelyNote() throws Exception {
+    private int likelyNote() {
         int b = between(0, model.count(0) - 1);
         int kind = between(0, 5), d = between(1, 28), m = between(0, 40);
         int q = Model.poundsIn(kind, m, model.of(b, 2));
@@ -97,7 +96,7 @@ public final class RandomRunsTest {
         return 3 + both("look", b) - 1;
     }
 
-    private int typeText() throws Exception {
+    private int typeText() {
         String text = random.nextInt(3) == 0 ? noise() : grown();
         both("clear");
         for (char c : text.toCharArray()) {
@@ -174,7 +173,7 @@ public final class RandomRunsTest {
         };
     }
 
-    private int both(String name, int... a) throws Exception {
+    private int both(String name, int... a) {
         long want = call(model, name, a);
         log.append(' ').append(name).append(Arrays.toString(a));
         String tail = log.length() > 600 ? log.substring(log.length() - 600) : log.toString();
@@ -182,23 +181,8 @@ public final class RandomRunsTest {
         return 1;
     }
 
-    private static long call(Object target, String name, int... a) throws Exception {
-        Class<?>[] types = new Class<?>[a.length];
-        Object[] values = new Object[a.length];
-        for (int i = 0; i < a.length; i++) {
-            types[i] = int.class;
-            values[i] = a[i];
-        }
-        Method m = target.getClass().getMethod(name, types);
-        try {
-            return ((Number) m.invoke(target, values)).longValue();
-        } catch (InvocationTargetException e) {
-            throw new AssertionError(name + Arrays.toString(a) + " threw", e.getCause());
-        }
-    }
-
     /** The calendar's end lies 283 calls away, where chance does not come. */
-    private static void lastMonth() throws Exception {
+    private static void lastMonth() {
         RandomRunsTest t = new RandomRunsTest(-1);
         t.both("account", 999);
         t.both("bill", 2, 28, 40);

@@ -113,6 +113,30 @@ abstract class Asking {
         return x;
     }
 
+    /** Whether two objects answer alike to all that changes nothing: of bills that are gone nothing may be left. */
+    static void answerAlike(String what, BeforeThird x, BeforeThird y) {
+        String[] names = {"truly", "below", "move", "dear", "digest"};
+        for (String name : names) {
+            Due.is(what + ": " + name, call(x, name), call(y, name));
+        }
+        for (int m : new int[] {1, 28, 99}) {
+            for (String name : new String[] {"most", "need"}) {
+                Due.is(what + ": " + name + " " + m, call(x, name, m), call(y, name, m));
+            }
+            for (String name : new String[] {"then", "low"}) {
+                Due.is(what + ": " + name + " " + m, call(x, name, m, 0), call(y, name, m, 0));
+                Due.is(what + ": " + name + " " + m, call(x, name, m, 1), call(y, name, m, 1));
+            }
+        }
+        Due.is(what + ": two", x.two(28, 0), y.two(28, 0));
+        Due.is(what + ": years", x.years(9, 60), y.years(9, 60));
+        for (int b = 0; b < 7; b++) {
+            Due.is(what + ": is " + b, x.is(b), y.is(b));
+            Due.is(what + ": look " + b, x.look(b), y.look(b));
+            Due.is(what + ": monthly " + b, x.monthly(b), y.monthly(b));
+        }
+    }
+
     /**
      * Whether two objects are alike in all that can be asked, what is hidden too: what may be undone, the
      * images, the text. It takes them apart: they are of no use after it. STATUS is left to the caller.

@@ -191,6 +191,27 @@ public final class QuestionsTest extends Asking {
         Due.is("four of them in 85", x.then(84, 0), 996);
         Due.is("four of them in 85", x.then(85, 0), 995);
         Due.is("no fifth in 99", x.then(99, 0), 995);
+        x = with(5);
+        x.bill(0, 16, 2);
+        // Drawn on the 16th, 44th, 72nd and 100th of the next days: the last is beyond all questions.
+        Due.is("the 99th", x.then(99, 0), -28 - 1);
+        Due.is("its charges", x.then(99, 1), 28);
+        Due.is("the least", x.low(99, 0), -29);
+        x = with(6);
+        x.bill(0, 16, 2);
+        Due.is("none on the 100th: never below", x.below(), NONE);
+        Due.is("none on the 100th: no need", x.need(99), 0);
+        Due.is("none on the 100th: nothing to spend", x.most(99), 0);
+        x = with(100);
+        x.bill(2, 28, 9);
+        x.bill(4, 28, 1);
+        Due.is("day 28 is of this month", x.then(28, 0), 81);
+        Due.is("the next is no quarter's", x.then(56, 0), 81);
+        x.days(27);
+        Due.is("today is of this month", x.then(1, 0), 81);
+        x.days(28);
+        Due.is("month 1: none", x.then(1, 0), 81);
+        Due.is("month 3: the quarter alone", x.then(57, 0), 72);
     }
 
     private static void low() {
@@ -280,6 +301,7 @@ public final class QuestionsTest extends Asking {
         said("the least that THE ACCOUNT should be more now (0 .. 999) for that, spending as it is; none.");
         BeforeThird x = with(0);
         Due.is("nothing", x.need(99), 0);
+        Due.is("more than nothing is there", with(999).need(99), 0);
         x.bill(0, 1, 1);
         Due.is("a pound", x.need(1), 1);
         x = with(0);
@@ -372,6 +394,12 @@ public final class QuestionsTest extends Asking {
         x.spend(1);
         // 10 pounds last till day 10 if the bill comes later: then on whichever day it comes.
         Due.is("the lowest of many days", x.move(), 11);
+        x = with(0);
+        x.bill(5, 1, 10);
+        x.bill(0, 1, 10);
+        x.bill(0, 2, 5);
+        // Either plain one on 28 leaves 1 charge; pay helps nowhere.
+        Due.is("the second, with the first as it is", x.move(), 128);
     }
 
     private static void moveOfNone() {
@@ -445,6 +473,10 @@ public final class QuestionsTest extends Asking {
         x.bill(0, 6, 5);
         x.bill(0, 7, 5);
         Due.is("the first of those that help", x.dear(), 1);
+        x = with(5);
+        x.bill(0, 1, 5);
+        x.bill(0, 2, 10);
+        Due.is("each is left out once, and by itself", x.dear(), 1);
         statuses("none is no refusal", x, 0, 0, 0);
     }
 
@@ -452,7 +484,8 @@ public final class QuestionsTest extends Asking {
         said("NOTES 0 .. 5, as they come: told for DAY d (1 .. 28) a BILL was drawn on DAY e (1 .. 28) in MONTH m "
             + "(0 .. 40), q (-999 .. 999) POUNDS, its POUNDS as they are.");
         int[][] told = {
-            {0, 1, 28, 0, -999}, {1, 28, 1, 40, 999}, {0, 2, 3, 4, 5}, {1, 2, 3, 4, -5}, {0, 1, 1, 0, 0}, {1, 28, 28, 40, 0}};
+            {0, 1, 28, 0, -999}, {1, 28, 1, 40, 999}, {0, 2, 3, 4, 5}, {1, 2, 3, 4, -5}, {0, 1, 1, 0, 0},
+            {1, 28, 28, 40, 0}};
         BeforeThird x = with(0);
         x.bill(0, 1, 1);
         x.bill(0, 1, 1);
@@ -546,8 +579,8 @@ public final class QuestionsTest extends Asking {
     }
 
     private static void look() {
-        said("by which the most of these KINDS that are drawn alike (DAY, as it is told for, and POUNDS) are fewest; "
-            + "of like ones the first; none: no KIND.");
+        said("LOOK: the MONTH (0 .. 12) by which the most of these KINDS that are drawn alike (DAY, as it is told "
+            + "for, and POUNDS) are fewest; of like ones the first; none: no KIND.");
         // In months 0, 3 .. 12 plain, moved and quarter are alike; else plain and moved, and quarter and yearly.
         Due.is("all kinds", look(1), 1);
         Due.is("all kinds on a sunday: two alike in each, so the first", look(7), 0);
@@ -603,7 +636,8 @@ public final class QuestionsTest extends Asking {
     }
 
     private static void twoMore() {
-        said("TWO may spend i, j (0 .. 3 each) more each DAY for m (1 .. 28) DAYS");
+        said("TWO may spend i, j (0 .. 3 each) more each DAY for m (1 .. 28) DAYS: to each 3 times that, "
+            + "less CHARGES in them");
         BeforeThird x = with(28);
         // Up to a pound together there is no charge; two pounds last 14 days.
         pairs("28 pounds", x, 28, 1, 4, 15);
@@ -613,6 +647,11 @@ public final class QuestionsTest extends Asking {
         pairs("enough for both", x, 28, 15);
         x = with(28 * 6 - 1);
         pairs("one charge is less than 3", x, 28, 15);
+        // 4 together cost nothing, 5 cost 6 charges, 6 cost 10; no one may spend 4.
+        pairs("enough for 4", with(28 * 4), 28, 7, 10, 13);
+        x = with(0);
+        x.bill(0, 28, 1);
+        pairs("a charge that comes anyway", x, 28, 0, 15);
     }
 
     private static void boiler() {

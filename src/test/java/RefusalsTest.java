@@ -17,6 +17,7 @@ public final class RefusalsTest extends Asking {
         badAheadOfNo();
         badAheadOfFull();
         notRefused();
+        belowNothing();
         countsEach();
         Due.end();
     }
@@ -138,6 +139,9 @@ public final class RefusalsTest extends Asking {
     }
 
     private static void jarNo() {
+        said("POUNDS go from THE ACCOUNT into THE JAR (below 0: back): THE JAR.");
+        Due.is("in", jarOf(9, 5).jar(4), 9);
+        Due.is("back", jarOf(9, 5).jar(-4), 1);
         said("NO: there are not so many in it, THE ACCOUNT would be below 0 by it.");
         refusedAt("one too many out", 50, 20, -21);
         refusedAt("one too many in", 20, 50, 21);
@@ -268,31 +272,54 @@ public final class RefusalsTest extends Asking {
         alike("all stays", x, full());
     }
 
+    private static void none(String sentence, BeforeThird x, long answer, int want) {
+        said(sentence);
+        Due.is("none", answer, want);
+        statuses("that is no refusal", x, 0, 0, 0);
+    }
+
     private static void notRefused() {
-        said("(each answer told so below is such a one)");
         BeforeThird x = with(0);
-        Due.is("below", x.below(), NONE);
-        Due.is("move", x.move(), NONE);
-        Due.is("dear", x.dear(), NONE);
+        none("BELOW. NONE.", x, x.below(), NONE);
+        none("MOVE. NONE.", x, x.move(), NONE);
+        none("DEAR. NONE.", x, x.dear(), NONE);
         x.bill(0, 1, 99);
         x.note(0, 1, 1, 0, 0);
-        Due.is("most", x.most(1), NONE);
-        Due.is("look", x.look(0), NONE);
+        none("SPEND for m. NONE. BAD.", x, x.most(1), NONE);
+        none("LOOK. NONE. BAD.", x, x.look(0), NONE);
+        none("IS, as bits. BAD.", x, x.is(0), 0);
         x.spend(30);
-        Due.is("need", x.need(99), NONE);
-        Due.is("two", x.two(1, 9), -5);
-        Due.is("read", x.read(), -10);
-        Due.is("is", x.is(0), 0);
-        statuses("none of them is told so", x, 0, 0, 0);
-        x = with(0);
-        x.spend(1);
-        x.days(2);
-        Due.is("an account of -4", x.now(ACCOUNT), -4);
-        Due.is("is no FULL", x.truly(), -4);
-        Due.is("nor is it then", x.then(0, 0), -4);
-        x.bill(5, 1, 2);
-        Due.is("a pay of -2 is no BAD", x.of(0, 4), -2);
-        statuses("an answer below 0 isn't, either", x, 0, 0, 0);
+        none("NEED. NONE. BAD.", x, x.need(99), NONE);
+        none("-5: not so many.", x, x.two(1, 9), -5);
+        none("-10 less the FAULT: all stays.", x, x.read(), -10);
+        none("BOILER is THE FRACTION: 1. BAD.", x, x.boiler(0, 0, 0), 1);
+    }
+
+    /** Answers that look like a refusal, and are none. */
+    private static void belowNothing() {
+        for (int pounds = -2; pounds >= -12; pounds--) {
+            BeforeThird x = with(0);
+            x.spend(-pounds - 1);
+            x.days(1);
+            x.spend(0);
+            said("THE ACCOUNT (0), THE JAR (1), CHARGES (2), DAY (3), MONTH (4), spending (5); it may be below 0.");
+            Due.is("now", x.now(ACCOUNT), pounds);
+            said("TRULY (it may be below 0).");
+            Due.is("truly", x.truly(), pounds);
+            said("THEN: THE ACCOUNT (0; it may be below 0)");
+            Due.is("then", x.then(0, 0), pounds);
+            said("LOW: how much (0; it may be below 0)");
+            Due.is("low", x.low(1, 0), pounds - 1);
+            said("YEARS (it may be below 0).");
+            Due.is("years", x.years(0, 0), pounds);
+            said("how much in this MONTH (4; it may be below 0)");
+            x.bill(5, 1, -pounds);
+            Due.is("of", x.of(0, 4), pounds);
+            said("MONTHLY (it may be below 0).");
+            Due.is("monthly", x.monthly(0), 24 * pounds);
+            said("(each answer told so below is such a one)");
+            statuses("none of them is", x, 0, 0, 0);
+        }
     }
 
     private static void countsEach() {

@@ -1,6 +1,11 @@
+import java.math.BigInteger;
+import java.util.ArrayList;
+import java.util.List;
+
 /** The boundary cases that the document's terms name: the calendar, the kinds, a day that goes by, undo, images. */
 public final class TermsTest extends Asking {
     public static void main(String[] args) {
+        newObject();
         firstDay();
         monthsEnd();
         lastDayOfAll();
@@ -17,6 +22,7 @@ public final class TermsTest extends Asking {
         belowNothing();
         orderWithinADay();
         accountAnew();
+        spendingTold();
         daysTogether();
         undone();
         eightAtMost();
@@ -26,7 +32,30 @@ public final class TermsTest extends Asking {
         imageOfNothing();
         statusOutlives();
         fractionAtFirst();
+        digests();
         Due.end();
+    }
+
+    private static void newObject() {
+        said("As told; no BILLS.");
+        BeforeThird x = new BeforeThird();
+        figures("new", x, 0, 0, 0, 1, 0, 0);
+        counts("new", x, 0, 0, 0, 0);
+        fraction("new", x, 0, 1);
+        statuses("new", x, 0, 0, 0);
+        Due.is("no bill 0", x.of(0, 0), BAD_OF);
+        Due.is("nothing to undo", x.undo(), NO);
+        Due.is("no image 0", x.from(0), NO);
+        Due.is("no image 1", x.from(1), NO);
+        Due.is("an empty text", x.read(), -10);
+        x.account(999);
+        x.bill(0, 1, 1);
+        x.type('a');
+        x.image(0);
+        BeforeThird other = new BeforeThird();
+        figures("another one knows nothing of it", other, 0, 0, 0, 1, 0, 0);
+        counts("another one knows nothing of it", other, 0, 0, 0, 0);
+        Due.is("nor of its image", other.from(0), NO);
     }
 
     private static void firstDay() {
@@ -303,7 +332,46 @@ public final class TermsTest extends Asking {
         for (int b = 0; b < 7; b++) {
             x.bill(0, 1, 1);
         }
+        x.note(6, 1, 2, 3, 4);
         Due.is("seven bills", x.account(1), 7);
+        answerAlike("nothing of them is left", x, with(1));
+        x.days(28);
+        Due.is("nor drawn", x.now(ACCOUNT), 1);
+        x = rich();
+        x.account(9);
+        x.bill(2, 3, 4);
+        BeforeThird y = with(9);
+        y.bill(2, 3, 4);
+        y.boiler(0, 0, 0);
+        x.boiler(0, 0, 0);
+        x.clear();
+        answerAlike("nor behind a new one", x, y);
+        x.days(28);
+        y.days(28);
+        Due.is("nor drawn", x.digest(), y.digest());
+        x = rich();
+        x.account(0);
+        x.spend(1);
+        x.boiler(0, 0, 0);
+        x.clear();
+        y = with(0);
+        y.spend(1);
+        answerAlike("nor moved, though there are charges", x, y);
+    }
+
+    private static void spendingTold() {
+        said("A DAY's spending: what it was. BAD.");
+        BeforeThird x = with(9);
+        x.jar(4);
+        Due.is("it was 0", x.spend(30), 0);
+        Due.is("31", x.spend(31), BAD);
+        Due.is("-1", x.spend(-1), BAD);
+        Due.is("it was 30, as a refused one is none", x.spend(0), 30);
+        Due.is("it was 0", x.spend(7), 0);
+        x.undo();
+        x.undo();
+        Due.is("undone", x.spend(8), 30);
+        Due.is("it is", x.now(SPENDING), 8);
     }
 
     private static void daysTogether() {
@@ -493,10 +561,9 @@ public final class TermsTest extends Asking {
             x.jar(i);
         }
         x.image(0);
-        for (int i = 0; i < 8; i++) {
-            x.undo();
-            x.spend(30 - i);
-            x.undo();
+        x.account(77);
+        for (int i = 0; i < 9; i++) {
+            x.days(1);
         }
         x.from(0);
         for (int i = 8; i >= 1; i--) {
@@ -504,6 +571,22 @@ public final class TermsTest extends Asking {
             x.undo();
         }
         Due.is("no ninth", x.undo(), NO);
+        x.account(0);
+        for (int b = 0; b < 7; b++) {
+            x.bill(b % 6, 28 - b, 99 - b);
+        }
+        for (int i = 0; i < 6; i++) {
+            x.note(i, 28 - i, 1 + i, 40 - i, 999 - i);
+        }
+        long full = x.digest();
+        x.image(1);
+        x.account(5);
+        for (int b = 0; b < 7; b++) {
+            x.bill(0, 1, 1);
+            x.note(0, 1, 1, 0, 1);
+        }
+        x.from(1);
+        Due.is("seven bills and six notes are kept", x.digest(), full);
     }
 
     private static void imageOfNothing() {
@@ -569,5 +652,34 @@ public final class TermsTest extends Asking {
         fraction("99 days, 9", x, 891, 10);
         x.account(5);
         fraction("it stays", x, 891, 10);
+    }
+
+    private static void digests() {
+        said("h = 1373; then h = 31 h + v for each v: count(0) to count(3); now(0) to now(5); of BILLS KIND, DAY, "
+            + "POUNDS; of NOTES b, d, e, m, q; THE FRACTION.");
+        BeforeThird x = with(3);
+        List<Integer> told = new ArrayList<>();
+        for (int b = 0; b < 7; b++) {
+            x.bill(b % 6, 22 + b, 99 - b);
+            told.addAll(List.of(b % 6, 22 + b, 99 - b));
+        }
+        for (int i = 0; i < 6; i++) {
+            x.note(i, 28 - i, 1 + i, 40 - i, 997 * (i % 3 - 1));
+            told.addAll(List.of(i, 28 - i, 1 + i, 40 - i, 997 * (i % 3 - 1)));
+        }
+        x.jar(2);
+        x.spend(1);
+        x.days(2);
+        type(x, "digest");
+        x.boiler(999, 3, 3);
+        // 1 pound lasts a day; then 1 below on day 2. Below 0 in the next 3 days, burst or not.
+        told.addAll(0, List.of(7, 6, 3, 6, -2, 2, 1, 3, 0, 1));
+        told.addAll(List.of(3, 1));
+        BigInteger h = BigInteger.valueOf(1373);
+        for (int v : told) {
+            h = h.multiply(BigInteger.valueOf(31)).add(BigInteger.valueOf(v));
+        }
+        Due.holds("the sum is beyond what a long holds", h.bitLength() > 200);
+        Due.is("wrapped around", x.digest(), h.longValue());
     }
 }

@@ -88,6 +88,16 @@ public final class TextTest extends Asking {
         x.type(';');
         Due.is("nor of what was behind it", x.read(), -10);
         statuses("refused", x, 0, 0, 2);
+        x = new BeforeThird();
+        type(x, "account 99;jar 99;");
+        type(x, "account 9");
+        Due.is("a figure behind the end is gone", x.read(), -19);
+        type(x, "account 9;jar");
+        Due.is("a blank behind the end is gone", x.read(), -23);
+        type(x, "account 9;ja");
+        Due.is("a letter behind the end is gone", x.read(), -20);
+        type(x, "account");
+        Due.is("so is all of it", x.read(), -17);
     }
 
     private static String grownTo(int length) {
@@ -339,6 +349,11 @@ public final class TextTest extends Asking {
         }
         fault("accountjar 5;", 0);
         fault(A + "jarjar 1;", 10);
+        for (String word : new String[] {"will", "kar", "jbr", "jas", "upend", "spene", "bilk"}) {
+            fault(A + word + " 1;", 10);
+        }
+        fault("bccount 5;", 0);
+        fault("accouns 5;", 0);
     }
 
     private static void aheadOfAccount() {
@@ -455,6 +470,12 @@ public final class TextTest extends Asking {
         x = rich();
         type(x, A + "bill 1 7 9;");
         x.read();
+        BeforeThird y = with(50);
+        y.bill(1, 7, 9);
+        type(y, A + "bill 1 7 9;");
+        y.boiler(0, 0, 0);
+        x.boiler(0, 0, 0);
+        answerAlike("nothing of the old bills is left", x, y);
         Due.is("a new bill in an old one's place", x.of(0, 3), 8);
         Due.is("no notes of the old one", x.is(0), 63);
         Due.is("no second bill", x.of(1, 0), BAD_OF);
